@@ -46,38 +46,24 @@ public final class NoonJars {
     }
 
     public int lay(int r, int i, int v) {
-        if (!isWithin(r, 0, ROWS - 1)) {
-            return BAD;
+        int refusal = refusePlace(rows, r, i);
+        if (refusal != 0) {
+            return refusal;
         }
-        Row row = rows[r];
-        if (!row.isThere()) {
-            return find(NOTHING);
-        }
-        if (!row.has(i)) {
-            return find(BEYOND);
-        }
-        int was = row.places[i];
-        row.places[i] = v;
+        int was = rows[r].places[i];
+        rows[r].places[i] = v;
         return tell(1, was);
     }
 
     public int at(int r, int i) {
-        if (!isWithin(r, 0, ROWS - 1)) {
-            return BAD;
-        }
-        Row row = rows[r];
-        if (!row.isThere()) {
-            return find(NOTHING);
-        }
-        return row.has(i) ? tell(1, row.places[i]) : find(BEYOND);
+        int refusal = refusePlace(rows, r, i);
+        return refusal != 0 ? refusal : tell(1, rows[r].places[i]);
     }
 
     public int tear(int r) {
-        if (!isWithin(r, 0, ROWS - 1)) {
-            return BAD;
-        }
-        if (!rows[r].isThere()) {
-            return find(NOTHING);
+        int refusal = refuseRow(rows, r);
+        if (refusal != 0) {
+            return refusal;
         }
         rows[r].size = MISSING;
         return 1;
@@ -103,13 +89,11 @@ public final class NoonJars {
     }
 
     public int mean(int r) {
-        if (!isWithin(r, 0, ROWS - 1)) {
-            return BAD;
+        int refusal = refuseRow(rows, r);
+        if (refusal != 0) {
+            return refusal;
         }
         Row row = rows[r];
-        if (!row.isThere()) {
-            return find(NOTHING);
-        }
         if (row.size == 0) {
             return find(NOUGHT);
         }
@@ -121,34 +105,24 @@ public final class NoonJars {
     }
 
     public int put(int t, int i, int v) {
-        if (!isWithin(t, 0, TEXTS - 1)) {
-            return BAD;
+        int refusal = refusePlace(texts, t, i);
+        if (refusal != 0) {
+            return refusal;
         }
-        Row text = texts[t];
-        if (!text.isThere()) {
-            return find(NOTHING);
-        }
-        if (!text.has(i)) {
-            return find(BEYOND);
-        }
-        int was = text.places[i];
-        text.places[i] = (byte) v;
+        int was = texts[t].places[i];
+        texts[t].places[i] = (byte) v;
         return was + 1000;
     }
 
     public int fault(int t) {
-        if (!isWithin(t, 0, TEXTS - 1)) {
-            return BAD;
-        }
-        return texts[t].isThere() ? reader.read(texts[t], draft) : find(NOTHING);
+        int refusal = refuseRow(texts, t);
+        return refusal != 0 ? refusal : reader.read(texts[t], draft);
     }
 
     public int land(int t) {
-        if (!isWithin(t, 0, TEXTS - 1)) {
-            return BAD;
-        }
-        if (!texts[t].isThere()) {
-            return find(NOTHING);
+        int refusal = refuseRow(texts, t);
+        if (refusal != 0) {
+            return refusal;
         }
         if (reader.read(texts[t], draft) != NONE) {
             return STATE;
@@ -482,13 +456,11 @@ public final class NoonJars {
     }
 
     public int theft(int r, int kind) {
-        if (!isWithin(r, 0, ROWS - 1) || !isWithin(kind, Kinds.JAR, Kinds.DUSK)) {
-            return BAD;
+        int refusal = isWithin(kind, Kinds.JAR, Kinds.DUSK) ? refuseRow(rows, r) : BAD;
+        if (refusal != 0) {
+            return refusal;
         }
         Row row = rows[r];
-        if (!row.isThere()) {
-            return find(NOTHING);
-        }
         if (row.size < 2) {
             return find(SIZE);
         }
@@ -506,13 +478,11 @@ public final class NoonJars {
     }
 
     public int seats(int n, int r, int to) {
-        if (!isWithin(n, 0, 99) || !isWithin(r, 0, ROWS - 1) || !isWithin(to, 0, ROWS - 1)) {
-            return BAD;
+        int refusal = isWithin(n, 0, 99) && isWithin(to, 0, ROWS - 1) ? refuseRow(rows, r) : BAD;
+        if (refusal != 0) {
+            return refusal;
         }
         Row seats = rows[r];
-        if (!seats.isThere()) {
-            return find(NOTHING);
-        }
         if (!isWithin(seats.size, 1, 6)) {
             return find(SIZE);
         }
@@ -665,6 +635,23 @@ public final class NoonJars {
     private int tell(int answer, int told) {
         asked = told;
         return answer;
+    }
+
+    /** BAD, NOTHING, or 0 if a ROW (a TEXT) is there. */
+    private int refuseRow(Row[] all, int r) {
+        if (!isWithin(r, 0, all.length - 1)) {
+            return BAD;
+        }
+        return all[r].isThere() ? 0 : find(NOTHING);
+    }
+
+    /** BAD, NOTHING, BEYOND, or 0 if a ROW (a TEXT) has a place. */
+    private int refusePlace(Row[] all, int r, int i) {
+        int refusal = refuseRow(all, r);
+        if (refusal != 0) {
+            return refusal;
+        }
+        return all[r].has(i) ? 0 : find(BEYOND);
     }
 
     private int makeRow(Row row, int n, int v) {

@@ -98,6 +98,11 @@ public final class BadLightTest {
         CHECK.tells(38, y, "test(): all three tell all", y.test(), 7, 1);
         y.burnt(1, 5);
         CHECK.tells(38, y, "test(): JARS 1 and 2", y.test(), 6, 1);
+        // Six alike: of five of them 10 sets have two with dawn, with the sixth 20; all six leave 20 as well.
+        NoonJars z = Check.land("y1s0v0000j20j20j20j20j20j20");
+        CHECK.tells(38, z, "test() of six alike", z.test(), 31, 20);
+        z.burnt(63, 120);
+        CHECK.tells(36, z, "mixed(): none of six", z.mixed(), 1, 0);
     }
 
     private static void withoutJars() {

@@ -78,6 +78,11 @@ public final class PouringsTest {
         CHECK.tells(33, x, "most(0)", x.most(0), 20, 316);
         CHECK.tells(33, x, "most(1)", x.most(1), 13, 316);
         CHECK.tells(33, x, "most(2)", x.most(2), 7, 316);
+        NoonJars full = Check.land("y6s1v0000j20j20j20");
+        full.fill(0);
+        full.fill(1);
+        full.fill(2);
+        CHECK.tells(33, full, "most(2), all full", full.most(2), 20, 1);
         NoonJars y = Check.land("y6s1v0000j5j9");
         CHECK.tells(33, y, "most(0), all empty", y.most(0), 0, 1);
         y.fill(0);

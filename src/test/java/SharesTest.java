@@ -30,6 +30,10 @@ public final class SharesTest {
         CHECK.tells(39, x, "theft(2, 2)", x.theft(2, 2), 1, 1);
         Check.fillRow(x, 2, 0, 0);
         CHECK.refused(39, x, "theft(2, 2): nothing", NoonJars.NONE, () -> x.theft(2, 2));
+        x.row(3, 60);
+        CHECK.refused(39, x, "theft(3, 2): sixty posts", NoonJars.NONE, () -> x.theft(3, 2));
+        x.lay(3, 58, 20);
+        CHECK.tells(39, x, "theft(3, 2) at the last post", x.theft(3, 2), 59, 20);
     }
 
     private static void theftRefusals() {
