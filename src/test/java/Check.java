@@ -33,27 +33,43 @@ final class Check {
         long digest = x.digest();
         int asked = x.asked();
         int finding = x.finding();
+        int[] before = findingsOf(x);
         due(promise, call, calling.getAsInt(), want);
         due(promise, "digest() behind " + call, x.digest(), digest);
         due(promise, "asked() behind " + call, x.asked(), asked);
         due(promise, "finding() behind " + call, x.finding(), finding);
+        dueFindings(promise, x, call, before);
+    }
+
+    private static int[] findingsOf(NoonJars x) {
+        int[] all = new int[6];
+        for (int f = 1; f <= 5; f++) {
+            all[f] = x.findings(f);
+        }
+        return all;
+    }
+
+    private void dueFindings(int promise, NoonJars x, String call, int[] want) {
+        for (int f = 1; f <= 5; f++) {
+            due(promise, "findings(" + f + ") behind " + call, x.findings(f), want[f]);
+        }
     }
 
     /** A call that is refused with a FINDING: nothing else changes. */
     void finds(int promise, NoonJars x, String call, int f, IntSupplier calling) {
         long digest = x.digest();
         int asked = x.asked();
-        int[] before = new int[6];
-        for (int g = 1; g <= 5; g++) {
-            before[g] = x.findings(g);
-        }
+        int[] before = findingsOf(x);
+        before[f]++;
         due(promise, call, calling.getAsInt(), NoonJars.FINDING);
         due(promise, "finding() behind " + call, x.finding(), f);
-        for (int g = 1; g <= 5; g++) {
-            due(promise, "findings(" + g + ") behind " + call, x.findings(g), before[g] + (g == f ? 1 : 0));
-        }
+        dueFindings(promise, x, call, before);
         due(promise, "digest() behind " + call, x.digest(), digest);
         due(promise, "asked() behind " + call, x.asked(), asked);
+    }
+
+    int wrongOnes() {
+        return wrong;
     }
 
     void fail(String what) {
