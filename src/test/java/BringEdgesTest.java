@@ -69,6 +69,11 @@ public final class BringEdgesTest extends Edges {
         tells(x, "best(1): none gives any", x.best(1), 0, 0);
     }
 
+    private static void promise26TheLastOfSix() {
+        NoonJars x = Check.land("y6s1v0000j1j2j3j4j5j6");
+        tells(x, "best(0)", x.best(0), 5, 6);
+    }
+
     private static void promise26StateWithoutJars() {
         NoonJars x = Check.land("y6s1v0000");
         for (int p = 0; p <= 4; p++) {
@@ -127,6 +132,21 @@ public final class BringEdgesTest extends Edges {
     private static void promise27SixJarsFourValleys() {
         dueLoads("y1s0v9999l9l9l9l9l9l9", 4, ((1 * 5 + 2) * 5 + 3) * 5 + 4);
         dueLoads("y1s0v9999l5l5l5l5l5l5", 3, ((((1 * 5 + 1) * 5 + 2) * 5 + 2) * 5 + 3) * 5 + 3);
+    }
+
+    private static void promise27TheGreatestFigures() {
+        dueLoads("y1s0v0006l1l1l1l1l1l1", 1, 15624);
+    }
+
+    private static void promise27WhatWasAskedBeforeIsForgotten() {
+        NoonJars x = Check.land("y1s0v1111l9l9l9l9");
+        tells(x, "loads()", x.loads(), 4, ((1 * 5 + 2) * 5 + 3) * 5 + 4);
+        Check.write(x, 1, "y1s0v9990l9l9");
+        x.land(1);
+        tells(x, "loads() of another LAND", x.loads(), 2, 1 * 5 + 2);
+        Check.write(x, 1, "y1s0v9990l8");
+        x.land(1);
+        tells(x, "loads() of one that none lights", x.loads(), 0, 0);
     }
 
     /** JAR 0's figure is the highest of six. */
@@ -468,6 +488,24 @@ public final class BringEdgesTest extends Edges {
         x.fill(0);
         tells(x, "most(1)", x.most(1), 1, 2);
         tells(x, "most(0)", x.most(0), 2, 2);
+    }
+
+    private static void promise33EachStateOnce() {
+        NoonJars x = threeJars();
+        tells(x, "most(0)", x.most(0), 20, 316);
+        tells(x, "most(1)", x.most(1), 13, 316);
+        tells(x, "most(2)", x.most(2), 7, 316);
+    }
+
+    private static void promise33WhatWasAskedBeforeIsForgotten() {
+        NoonJars x = threeJars();
+        x.most(0);
+        x.carry(0, 1);
+        x.steal(0, 18);
+        tells(x, "most(0), alone with 2", x.most(0), 2, 1);
+        due("loss(0, 5)", x.loss(0, 5), NONE);
+        due("pours(0, 5)", x.pours(0, 5), NONE);
+        tells(x, "most(1), both empty", x.most(1), 0, 1);
     }
 
     private static void promise33BadJars() {

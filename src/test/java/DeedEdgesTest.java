@@ -348,6 +348,43 @@ public final class DeedEdgesTest extends Edges {
         }
     }
 
+    /** Six JARS, each PLACE, each with numbers of its own. */
+    private static NoonJars fullLand() {
+        NoonJars x = Check.land("y6s1v1211j20j19j18j17j16j15");
+        for (int k = 0; k < 6; k++) {
+            x.fill(k);
+        }
+        x.spend(0, 2);
+        int[][] carried = {{5, 5, 5, 5, 4, 4}, {4, 3, 3, 2, 1, 1}};
+        for (int[] jars : carried) {
+            for (int k : jars) {
+                x.carry(k, 1);
+            }
+            if (x.count(2) == 0) {
+                x.spend(5, 1);
+            }
+            x.night();
+        }
+        x.carry(4, 1);
+        for (int k = 1; k < 6; k++) {
+            x.spend(k, k);
+        }
+        x.spend(2, 3);
+        return x;
+    }
+
+    private static void promise22OfSixJarsAndAllPlaces() {
+        NoonJars x = fullLand();
+        long digest = x.digest();
+        for (int sort = 1; sort < 6; sort++) {
+            int done = sort == 1 ? x.carry(5, 0) : sort == 2 ? x.pour(1, 3) : sort == 3 ? x.spend(5, 1)
+                : sort == 4 ? x.steal(5, 1) : x.night();
+            due("a DEED of sort " + sort, done >= 0 ? 1 : 0, 1);
+            due("undo()", x.undo(), sort);
+            due("digest()", x.digest(), digest);
+        }
+    }
+
     private static void promise22OpenedIsUndoneToo() {
         NoonJars x = holding('e', 20, 20);
         x.spend(0, 1);
@@ -476,6 +513,41 @@ public final class DeedEdgesTest extends Edges {
         due("HOURS", Check.ofPlace(x, 1, 1), 1);
         due("OPENED", Check.ofJar(x, 1, 4), 1);
         due("DAYS that it was DARK", Check.ofPlace(x, 4, 2), 1);
+    }
+
+    private static void promise24OfSixJarsAndAllPlaces() {
+        NoonJars x = fullLand();
+        NoonJars y = fullLand();
+        for (int k = 0; k < 3; k++) {
+            x.keep(k);
+            y.keep(k);
+        }
+        y.on(1);
+        long digest = y.digest();
+        for (int k = 0; k < 3; k++) {
+            x.night();
+            x.fill(0);
+            x.carry(1, 1);
+            due("on(" + k + ")", x.on(k), 2);
+            due("digest()", x.digest(), digest);
+        }
+        dueFullLand(x);
+    }
+
+    private static void dueFullLand(NoonJars x) {
+        int[][] jars = {{14, 0, 1}, {14, 2, 1}, {9, 1, 1}, {10, 2, 1}, {8, 4, 1}, {5, 4, 1}};
+        for (int k = 0; k < 6; k++) {
+            due("LIGHT of " + k, Check.ofJar(x, k, 2), jars[k][0]);
+            due("PLACE of " + k, Check.ofJar(x, k, 3), jars[k][1]);
+            due("OPENED of " + k, Check.ofJar(x, k, 4), jars[k][2]);
+        }
+        int[] hours = {0, 5, 4, 0, 9};
+        int[] dark = {0, 2, 2, 2, 1};
+        for (int p = 0; p <= 4; p++) {
+            due("HOURS of " + p, Check.ofPlace(x, p, 1), hours[p]);
+            due("DARK DAYS of " + p, Check.ofPlace(x, p, 2), dark[p]);
+        }
+        due("MULES left", x.count(3), 5);
     }
 
     private static void promise24NoDeedsThen() {

@@ -336,6 +336,42 @@ public final class LandEdgesTest extends Edges {
         refused(x, "jar(1, 0)", BAD, () -> x.jar(1, 0));
     }
 
+    /** Whatever was asked of greater LANDS, all answers are those of a new object's LAND. */
+    private static void promise11AnewNothingIsLeftOfLandsBefore() {
+        NoonJars x = Check.land("y6s1v9999l20l20l20l20l20l20");
+        askAll(x);
+        Check.write(x, 1, "y5s1v9911l20l20l20");
+        x.land(1);
+        x.fill(2);
+        askAll(x);
+        Check.write(x, 1, "y1s01v0108j5c9");
+        x.land(1);
+        NoonJars y = Check.land("y1s01v0108j5c9");
+        due("answers", askAll(x), askAll(y));
+        x.night();
+        y.night();
+        x.fill(1);
+        y.fill(1);
+        due("answers behind fill()", askAll(x), askAll(y));
+    }
+
+    private static long askAll(NoonJars x) {
+        long h = 31 * x.loads() + x.asked();
+        for (int p = 0; p <= 4; p++) {
+            h = 31 * (31 * h + x.best(p)) + x.asked();
+            h = 31 * (31 * h + x.needs(p)) + x.asked();
+            h = 31 * (31 * h + x.mirror(p, 9)) + x.asked();
+        }
+        for (int n = 0; n <= 20; n++) {
+            h = 31 * (31 * (31 * h + x.pours(0, n)) + x.asked()) + x.loss(0, n);
+        }
+        h = 31 * (31 * h + x.most(0)) + x.asked();
+        h = 31 * (31 * h + x.mixed()) + x.asked();
+        h = 31 * (31 * h + x.sure()) + x.asked();
+        h = 31 * (31 * h + x.test()) + x.asked();
+        return 31 * (31 * h + x.upper()) + x.lower();
+    }
+
     private static void promise11RowsTextsAndFindingsStay() {
         NoonJars x = Check.land("y2s1v1111j9c9");
         Check.fillRow(x, 2, 5, 6);

@@ -182,6 +182,16 @@ public final class LightEdgesTest extends Edges {
         tells(x, "sure(): JARS 2 and 3 are open", x.sure(), 1, 2);
     }
 
+    private static void promise37WhatWasAskedBeforeIsForgotten() {
+        NoonJars x = Check.land("y1s0v0000j8j8j8");
+        tells(x, "sure()", x.sure(), 0, 0);
+        x.burnt(7, 24);
+        tells(x, "sure(), none has", x.sure(), 0, 7);
+        x.forget(0);
+        x.burnt(7, 12);
+        tells(x, "sure(), all have", x.sure(), 7, 0);
+    }
+
     private static void promise37NoughtOfNoSet() {
         NoonJars x = Check.land("y1s0v0000j8j8");
         x.burnt(1, 7);
@@ -215,6 +225,12 @@ public final class LightEdgesTest extends Edges {
         NoonJars y = Check.land("y1s0v0000j5j9j20");
         y.burnt(3, 14);
         tells(y, "test() of 0, 4: JAR 2 alone tells", y.test(), 4, 1);
+    }
+
+    private static void promise38TheSecondAlone() {
+        NoonJars x = Check.land("y1s0v0000j8j8");
+        x.burnt(1, 8);
+        tells(x, "test() of 0, 2", x.test(), 2, 1);
     }
 
     private static void promise38FewestLeftAheadOfFewestJars() {

@@ -209,6 +209,16 @@ public final class RowEdgesTest extends Edges {
         due("at(5, 59)", Check.placeOf(x, 5, 59), 7);
     }
 
+    private static void promise06FromAndToTheLastRow() {
+        NoonJars x = new NoonJars();
+        Check.fillRow(x, 5, 3, 4);
+        x.row(0, 2);
+        due("copy(5, 0, 0, 0, 2)", x.copy(5, 0, 0, 0, 2), 1);
+        dueRow(x, 0, 3, 4);
+        due("copy(5, 0, 5, 1, 1)", x.copy(5, 0, 5, 1, 1), 1);
+        dueRow(x, 5, 3, 3);
+    }
+
     private static void promise06ToItselfOnAsIfTakenAhead() {
         NoonJars x = twoRows();
         due("copy(0, 0, 0, 1, 4)", x.copy(0, 0, 0, 1, 4), 1);
