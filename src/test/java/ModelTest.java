@@ -238,7 +238,7 @@ public final class ModelTest {
         for (int k = 0; k < model.count(0); k++) {
             if ((set >> k & 1) == 1) {
                 call("jar", k, 1);
-                hours += k % 2 == 1 ? jars.asked() / 2 : jars.asked();
+                hours += k % 2 == 1 ? model.asked() / 2 : model.asked();
             }
         }
         call("burnt", set, hours + (random.nextInt(30) == 0 ? 1 : 0));
