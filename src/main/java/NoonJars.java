@@ -1025,16 +1025,17 @@ public final class NoonJars {
         private boolean readJars(Plan plan) {
             plan.jarCount = 0;
             skipBlanks();
-            while (plan.jarCount < MOST_JARS && sign() != END) {
-                if (!readJar(plan)) {
+            for (int k = 0; k < MOST_JARS && sign() != END; k++) {
+                if (!readJar(plan, k)) {
                     return false;
                 }
+                plan.jarCount++;
                 skipBlanks();
             }
             return sign() == END;
         }
 
-        private boolean readJar(Plan plan) {
+        private boolean readJar(Plan plan, int k) {
             int kind = Kinds.byLetter(sign());
             if (kind == NONE) {
                 return false;
@@ -1052,9 +1053,8 @@ public final class NoonJars {
             if (!isWithin(size, 1, MOST_SIZE)) {
                 return false;
             }
-            plan.kinds[plan.jarCount] = kind;
-            plan.sizes[plan.jarCount] = size;
-            plan.jarCount++;
+            plan.kinds[k] = kind;
+            plan.sizes[k] = size;
             return true;
         }
 
